@@ -604,7 +604,7 @@ public final class FrontCache {
             } else {
                 removePath(entry.path);
             }
-            while (count > 0 && filled + size > capacity) {
+            for (int left = count; left > 0 && filled + size > capacity; left--) {
                 removeAt(0);
             }
             append(entry);

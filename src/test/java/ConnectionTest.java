@@ -124,6 +124,13 @@ public final class ConnectionTest {
         c.due("flights()", x.flights(), 0);
         x.put(2, 1);
         c.flight(x, 0, 1, 1, 2, 0);
+        Check.settle(x);
+        Check.ticks(x, 10);
+        Check.settle(x);
+        c.due("waiting(0) when it is DOWN no more", x.waiting(0), 0);
+        c.answer(x, 4, 502, 0, 0, 0);
+        x.put(1, 1);
+        c.flight(x, 0, 0, 3, 2, 0);
     }
 
     private static void probes(Check c) {

@@ -73,7 +73,9 @@ public final class ControlTest {
         lifetime(c, "", -1);
         lifetime(c, " ", -1);
         lifetime(c, ",", -1);
+        lifetime(c, ",max-age=5", 5);
         lifetime(c, ",,,max-age=5", 5);
+        lifetime(c, ", ,max-age=5, ", 5);
         lifetime(c, "max-age=5,,", 5);
         lifetime(c, "   max-age=5   ", 5);
         lifetime(c, "a , max-age=5 ,b", 5);

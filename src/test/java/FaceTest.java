@@ -31,7 +31,7 @@ public final class FaceTest {
         }
         for (Method method : FrontCache.class.getDeclaredMethods()) {
             if (Modifier.isPrivate(method.getModifiers())) {
-                c.due("private method with a public name: " + method.getName(), names.contains(method.getName()), false);
+                c.due("a public name for private " + method, names.contains(method.getName()), false);
             } else {
                 seen.add(method.getReturnType() + " " + method.getName() + parameters(method.getParameterTypes()));
                 c.due("public and of the object: " + method, method.getModifiers() == Modifier.PUBLIC, true);
