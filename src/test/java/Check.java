@@ -20,6 +20,14 @@ final class Check {
         due(call, got ? 1 : 0, want ? 1 : 0);
     }
 
+    void due(String what, String got, String want) {
+        asked++;
+        if (!got.equals(want)) {
+            wrong++;
+            System.out.println(name + ": " + what + " showed" + got + "\n    due is" + want);
+        }
+    }
+
     /** All four numbers of the answer to a request. */
     void answer(FrontCache x, int request, int status, int tag, int age, int way) {
         due("answer(" + request + ", 0)", x.answer(request, 0), status);
@@ -41,6 +49,14 @@ final class Check {
         due("entries()", x.entries(), tags.length);
         for (int k = 0; k < tags.length; k++) {
             due("entry(" + k + ", 1)", x.entry(k, 1), tags[k]);
+        }
+    }
+
+    /** All six numbers of an entry. */
+    void entry(FrontCache x, int k, int path, int tag, int age, int lifetime, int size, int variant) {
+        int[] due = {path, tag, age, lifetime, size, variant};
+        for (int w = 0; w < due.length; w++) {
+            due("entry(" + k + ", " + w + ")", x.entry(k, w), due[w]);
         }
     }
 
@@ -84,6 +100,19 @@ final class Check {
         for (int i = 0; i < n; i++) {
             x.tick();
         }
+    }
+
+    /** Copies the first message until 16 are under way. */
+    static void crowd(FrontCache x) {
+        for (int i = 0; i < 16 && x.flights() < 16; i++) {
+            x.copy(0);
+        }
+    }
+
+    /** Publishes a resource that may be kept for long, and stores it. */
+    static void keep(FrontCache x, int path, int size) {
+        publish(x, "max-age=99", path, size, false);
+        load(x, path, 0);
     }
 
     /** Gets a path with an empty control. */
