@@ -80,6 +80,7 @@ public final class ConnectionEdgeTest {
         c.due("waiting(0)", x.waiting(0), 0);
     }
 
+    /** "When 4 wait at that origin's connection: 503.": GET, PUT and DELETE, for any of its paths, and only there. */
     private static void fourWaitOfEveryKind(Check c) {
         FrontCache x = new FrontCache(12);
         x.get(1, 0, 0);
@@ -204,6 +205,22 @@ public final class ConnectionEdgeTest {
         c.due("answer(2, 0) 11 ticks later", y.answer(2, 0), 0);
         y.tick();
         c.due("answer(2, 0) 12 ticks later", y.answer(2, 0), 504);
+        FrontCache z = new FrontCache(12);
+        for (int i = 0; i < 4; i++) {
+            z.put(3, 1);
+        }
+        Check.ticks(z, 2);
+        z.deliver(0);
+        z.deliver(0);
+        c.due("waiting(0) with others behind", z.waiting(0), 3);
+        Check.ticks(z, 3);
+        c.due("flights() 3 ticks later", z.flights(), 1);
+        z.tick();
+        c.due("flights() 4 ticks later", z.flights(), 2);
+        Check.ticks(z, 7);
+        c.due("waiting(0) 11 ticks later", z.waiting(0), 3);
+        z.tick();
+        c.due("waiting(0) 12 ticks later", z.waiting(0), 2);
     }
 
     /** "if it is still under work": an answer one tick before keeps each of the sends away. */
@@ -351,6 +368,7 @@ public final class ConnectionEdgeTest {
         }
     }
 
+    /** "(no answer that counts, .. came between)": one that comes too late, or from another origin, is none. */
     private static void anAnswerThatDoesNotCountBetween(Check c) {
         FrontCache x = new FrontCache(12);
         x.put(3, 1);
@@ -498,6 +516,7 @@ public final class ConnectionEdgeTest {
         c.due("waiting(0)", x.waiting(0), -1);
     }
 
+    /** "While an origin is DOWN a PROBE is sent to it": to each of them, and to no other. */
     private static void probesOfSeveralOrigins(Check c) {
         FrontCache x = new FrontCache(12);
         for (int path = 0; path < 3; path++) {

@@ -1,4 +1,4 @@
-/** The edges of promises 8, 9, 10, 14 and 15, and those that "Terms" names for messages; each test bears its sentence. */
+/** The edges of promises 8, 9, 10, 14, 15, and those that "Terms" names for messages; each test bears its sentence. */
 public final class MessageEdgeTest {
     private static final int[] NONE_OF_THREE = {3, 4, 15, 16, -1, -3, Integer.MIN_VALUE, Integer.MAX_VALUE};
 
@@ -236,6 +236,7 @@ public final class MessageEdgeTest {
         c.flight(x, x.flights() - 1, 1, 2, 2, 0);
     }
 
+    /** "one that is sent when 16 are there is lost": what is sent again 4 ticks later; 8 ticks later there is room. */
     private static void aRepeatSentAtSixteen(Check c) {
         FrontCache x = crowded(16);
         Check.ticks(x, 4);
@@ -263,6 +264,7 @@ public final class MessageEdgeTest {
         c.flight(x, 0, 0, 2, 3, 0);
     }
 
+    /** "one that is sent when 16 are there is lost": a probe 10 ticks after the mark; the one at 20 has room. */
     private static void aProbeSentAtSixteen(Check c) {
         FrontCache x = new FrontCache(12);
         Check.bringDown(x, 3);
@@ -294,6 +296,7 @@ public final class MessageEdgeTest {
         c.due("flights()", x.flights(), 15);
     }
 
+    /** "Takes the k-th message under way (from 0) out": an answer makes room for the next request. */
     private static void theNextOneHasTheRoomOfTheAnswer(Check c) {
         FrontCache x = crowded(16);
         x.delete(1);

@@ -274,6 +274,7 @@ public final class OriginEdgeTest {
         c.entry(x, 0, 1, 4, 0, 9, 1, -2);
     }
 
+    /** "answered with the same message as before": its date is that of the first time. */
     private static void theSameNumberHasTheSameDate(Check c) {
         FrontCache x = new FrontCache(12);
         Check.publish(x, "max-age=9", 1, 1, false);

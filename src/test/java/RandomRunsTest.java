@@ -9,7 +9,11 @@ public final class RandomRunsTest {
         "", "", "", "max-age=3", "max-age=9", "max-age=40", "s-maxage=20,max-age=1", "max-age=30, no-cache",
         "max-age=30,no-store", "private, max-age=9", "no-cache", "no-store", "only-if-cached", "min-fresh=3",
         "max-age=0", "max-age", "max-age=2,min-fresh=1", "max-age=5 , only-if-cached", "s-maxage", "no-cache=1",
-        "max-age= 4", "max-age=x,max-age=12", "max-age=99999", "max-age=100000", "private=,max-age=25"};
+        "max-age= 4", "max-age=x,max-age=12", "max-age=99999", "max-age=100000", "private=,max-age=25",
+        "max-age=6,max-age=2", "s-maxage=1,s-maxage=9", ",max-age=7", " max-age=7 ", "min-fresh=2,min-fresh=9",
+        "                               max-age=8", "max-age=8, a, b, c, d, e, f, g, private"};
+    private static final int[] CAPACITIES = {-1, 0, 1, 2, 9, 10, 12, 13, 39, 40, 41, 42};
+    private static final int[] CHARACTERS = {0, 10, 31, 32, 44, 61, 126, 127, 128, 255, 256, 65535};
     private static final String[] LASTING = {"max-age=4", "max-age=9", "s-maxage=40", "no-cache,max-age=9"};
     private static final String LETTERS = "max-ages=0123456789, no-cachestore";
 
@@ -20,6 +24,7 @@ public final class RandomRunsTest {
     private final Model model;
     private final int paths;
     private final boolean rough;
+    private final int largest;
     private int calls;
     private int lastRequest;
 
@@ -27,11 +32,13 @@ public final class RandomRunsTest {
         this.check = check;
         this.seed = seed;
         random = new Random(seed);
-        int capacity = random.nextInt(4) == 0 ? random.nextInt(50) - 4 : 3 + random.nextInt(15);
+        boolean atAnEdge = random.nextInt(3) == 0;
+        int capacity = atAnEdge ? CAPACITIES[random.nextInt(CAPACITIES.length)] : 3 + random.nextInt(15);
         real = new FrontCache(capacity);
         model = new Model(capacity);
         paths = 1 + random.nextInt(8);
         rough = random.nextInt(3) == 0;
+        largest = capacity > 18 || random.nextInt(3) == 0 ? 9 : 3;
     }
 
     public static void main(String[] args) {
@@ -86,7 +93,7 @@ public final class RandomRunsTest {
         }
         typeText(text);
         if (random.nextInt(40) == 0) {
-            type((char) random.nextInt(140));
+            type((char) CHARACTERS[random.nextInt(CHARACTERS.length)]);
         }
     }
 
@@ -146,7 +153,7 @@ public final class RandomRunsTest {
 
     private void publish() {
         int path = path();
-        int size = random.nextInt(3) == 0 ? about(1, 9) : about(1, 3);
+        int size = random.nextInt(3) == 0 ? about(1, 9) : about(1, largest);
         boolean varies = random.nextBoolean();
         due("publish(" + path + ", " + size + ", " + varies + ")",
             real.publish(path, size, varies), model.publish(path, size, varies));

@@ -1,4 +1,4 @@
-/** The edges of promises 5, 6, 7, 13 and 18, and those that "Terms" names for requests; each test bears its sentence. */
+/** The edges of promises 5, 6, 7, 13, 18, and those that "Terms" names for requests; each test bears its sentence. */
 public final class RequestEdgeTest {
     private static final int LEAST = Integer.MIN_VALUE;
     private static final int GREATEST = Integer.MAX_VALUE;

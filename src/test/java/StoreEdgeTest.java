@@ -265,7 +265,7 @@ public final class StoreEdgeTest {
         c.entryTags(x, 4, 12, 8);
     }
 
-    /** "It is stored .. when its control has a lifetime and neither no-store nor private, .. the request's .. no no-store" */
+    /** "It is stored .. when its control has a lifetime and neither no-store nor private, the request's .. no no-store" */
     private static void storedOrNot(Check c) {
         storedOrNot(c, "max-age=0", "", 1);
         storedOrNot(c, "s-maxage", "", 1);
@@ -336,6 +336,17 @@ public final class StoreEdgeTest {
         c.answer(x, 2, 304, 4, 1, 3);
         c.entryTags(x, 8);
         c.entry(x, 0, 2, 8, 1, 9, 2, -2);
+        FrontCache y = new FrontCache(1);
+        Check.keep(y, 1, 1);
+        Check.publish(y, "max-age=9", 2, 1, false);
+        Check.get(y, "no-cache", 1, 0, 0);
+        y.get(2, 0, 0);
+        y.deliver(1);
+        y.deliver(1);
+        c.entryTags(y, 8);
+        Check.settle(y);
+        c.answer(y, 2, 200, 4, 0, 3);
+        c.entryTags(y, 8);
     }
 
     /** "that very entry": one with the same tag that was stored in between is another one. */
@@ -433,6 +444,14 @@ public final class StoreEdgeTest {
         c.entryTags(x, 16, 8, 4);
         Check.fetch(x, 0, 0);
         c.entryTags(x, 16, 8, 4);
+        x.withdraw(1);
+        Check.fetch(x, 1, 0);
+        c.entryTags(x, 16, 8);
+        FrontCache y = new FrontCache(12);
+        Check.keep(y, 1, 1);
+        y.withdraw(1);
+        Check.fetch(y, 1, 0);
+        c.entryTags(y);
     }
 
     /** "204, and 404 to a DELETE: the same; with 204 all entries of the path are taken away." */
@@ -471,6 +490,9 @@ public final class StoreEdgeTest {
                     c.due("entries()", x.entries(), Math.min(capacity, 4 * path + variant + 1));
                 }
             }
+            c.due("entry(-1, 0) of a full store", x.entry(-1, 0), -1);
+            c.due("entry(last, 0) of a full store", x.entry(Math.min(capacity, 32) - 1, 0), capacity == 1 ? 7 : 0);
+            c.due("entry(behind, 0) of a full store", x.entry(Math.min(capacity, 32), 0), -1);
         }
     }
 
