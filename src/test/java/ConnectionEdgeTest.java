@@ -23,6 +23,7 @@ public final class ConnectionEdgeTest {
         anAnswerThatDoesNotCountBetween(c);
         otherThingsBetween(c);
         aProbesAnswerBetween(c);
+        aProbesAnswerAtWork(c);
         whoWaitsWhenItGoesDown(c);
         noNumberIsUsedForThese(c);
         passedOnToADownOrigin(c);
@@ -431,6 +432,37 @@ public final class ConnectionEdgeTest {
         x.put(3, 1);
         giveUpOne(x);
         c.due("waiting(0) behind two", x.waiting(0), -1);
+    }
+
+    /** A probe's answer ends the row, not the work: who is under work is sent again and given up as before. */
+    private static void aProbesAnswerAtWork(Check c) {
+        FrontCache x = new FrontCache(12);
+        Check.bringDown(x, 3);
+        Check.ticks(x, 10);
+        x.deliver(0);
+        x.copy(0);
+        x.copy(0);
+        x.deliver(0);
+        int first = x.put(3, 1);
+        int second = x.put(3, 1);
+        x.lose(2);
+        Check.ticks(x, 3);
+        x.deliver(0);
+        c.due("waiting(0) behind a probe's answer", x.waiting(0), 2);
+        x.tick();
+        c.flight(x, 1, 0, 3, 2, 0);
+        Check.ticks(x, 8);
+        c.answer(x, first, 504, 0, 0, 0);
+        c.answer(x, second, 0, 0, 0, 0);
+        c.due("waiting(0) behind the first", x.waiting(0), 1);
+        x.deliver(0);
+        Check.loseAll(x);
+        Check.ticks(x, 12);
+        c.answer(x, second, 504, 0, 0, 0);
+        c.due("waiting(0) behind the second", x.waiting(0), 0);
+        x.put(3, 1);
+        giveUpOne(x);
+        c.due("waiting(0) behind the third", x.waiting(0), -1);
     }
 
     /** "all that wait there are 502, in their order": from none to three. */

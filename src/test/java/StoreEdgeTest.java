@@ -23,6 +23,7 @@ public final class StoreEdgeTest {
         confirmedTwice(c);
         notFound(c);
         changed(c);
+        deleteOfWhatIsNotThere(c);
         howManyEntries(c);
         whichEntry(c);
         whatOfAnEntry(c);
@@ -475,6 +476,22 @@ public final class StoreEdgeTest {
         Check.settle(x);
         c.answer(x, 8, 204, 0, 0, 0);
         c.entryTags(x, 12, 4);
+    }
+
+    /** "404 to a DELETE: the same": the same status, and nothing was changed, so the entry is answered from. */
+    private static void deleteOfWhatIsNotThere(Check c) {
+        FrontCache x = three();
+        x.withdraw(1);
+        int request = x.delete(1);
+        x.deliver(0);
+        c.flight(x, 0, 4, 3, 404, 0);
+        x.deliver(0);
+        c.answer(x, request, 404, 0, 0, 0);
+        c.entryTags(x, 12, 8, 4);
+        c.answer(x, x.get(1, 0, 0), 200, 4, 0, 1);
+        c.entryTags(x, 4, 12, 8);
+        Check.fetch(x, 1, 0);
+        c.entryTags(x, 12, 8);
     }
 
     /** "How many entries are stored": from none to as many as sizes of 1 allow. */
